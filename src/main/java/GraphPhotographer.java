@@ -651,13 +651,14 @@ public final class GraphPhotographer {
         private static final int TRUTH = 0, BYTE = 1, CHAR = 2, SHORT = 3, INT = 4, LONG = 5, FLOAT = 6, DOUBLE = 7;
         private static final int FLOAT_FRACTION = 23, FLOAT_BIAS = 127, DOUBLE_FRACTION = 52, DOUBLE_BIAS = 1023;
         private static final long FLOAT_INFINITY = 0x7f800000L, DOUBLE_INFINITY = 0x7ff0000000000000L;
+        private static final long FLOAT_SIGN = 0x80000000L, SIGN = 0x8000000000000000L;
         /** The least float above 0 is 2 to the power of this. */
         private static final int LEAST_FLOAT_POWER = -149;
 
         /** Whether k is PLAIN and the WORD tells a number of it. */
         static boolean isTaken(int k, long word) {
-            if (k == FLOAT) return (word & 0x7fffffffL) <= FLOAT_INFINITY;
-            if (k == DOUBLE) return (word & Long.MAX_VALUE) <= DOUBLE_INFINITY;
+            if (k == FLOAT) return (word & (FLOAT_SIGN - 1)) <= FLOAT_INFINITY;
+            if (k == DOUBLE) return (word & ~SIGN) <= DOUBLE_INFINITY;
             return k >= TRUTH && k < FLOAT;
         }
 
@@ -690,9 +691,9 @@ public final class GraphPhotographer {
         static long widened(long word, int from, int to) {
             if (from == to || to < FLOAT) return word;
             if (from == FLOAT) return doubleOfFloat(word);
-            if (to == DOUBLE) return rounded(word, DOUBLE_FRACTION, DOUBLE_BIAS) | (word & Long.MIN_VALUE);
+            if (to == DOUBLE) return rounded(word, DOUBLE_FRACTION, DOUBLE_BIAS) | (word & SIGN);
             long size = rounded(word, FLOAT_FRACTION, FLOAT_BIAS);
-            return word < 0 ? (int) (size | 0x80000000L) : size;
+            return word < 0 ? (int) (size | FLOAT_SIGN) : size;
         }
 
         /** The place of the highest bit; 0 if there is none. */
@@ -722,8 +723,8 @@ public final class GraphPhotographer {
         }
 
         private static long doubleOfFloat(long word) {
-            long sign = word & Long.MIN_VALUE;
-            long size = word & 0x7fffffffL;
+            long sign = word & SIGN;
+            long size = word & (FLOAT_SIGN - 1);
             if (size == 0) return sign;
             if (size == FLOAT_INFINITY) return sign | DOUBLE_INFINITY;
             long exponent = size >>> FLOAT_FRACTION;
