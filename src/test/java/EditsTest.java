@@ -24,14 +24,6 @@ public final class EditsTest {
         CHECKS.due(call, got, want);
     }
 
-    private static int node(GraphPhotographer g) {
-        int k = g.kind(0);
-        g.component(k, 4);
-        g.component(k, 8);
-        g.close(k);
-        return k;
-    }
-
     private static void edit(GraphPhotographer g, int k, long... want) {
         for (int what = 0; what < 5; what++) due("36: edit(" + k + ", " + what + ")", g.edit(k, what), want[what]);
     }
@@ -39,7 +31,7 @@ public final class EditsTest {
     /** PICTURE 0: ROOT 0 is a (0), with b (1) behind it; PICTURE 1: a changed and SEALED, b away, c (2) there, a new ROOT. */
     private static GraphPhotographer two() {
         GraphPhotographer g = new GraphPhotographer();
-        int k = node(g);
+        int k = Graphs.node(g);
         g.record(k);
         g.record(k);
         g.record(k);
@@ -207,7 +199,7 @@ public final class EditsTest {
 
     private static void misfitOfSeals() {
         GraphPhotographer g = new GraphPhotographer();
-        int k = node(g);
+        int k = Graphs.node(g);
         g.record(k);
         g.record(k);
         g.name(0, 0);
@@ -233,7 +225,7 @@ public final class EditsTest {
 
     private static void misfitOfRootAndGoes() {
         GraphPhotographer g = new GraphPhotographer();
-        int k = node(g);
+        int k = Graphs.node(g);
         g.record(k);
         g.record(k);
         g.name(0, 0);
@@ -274,7 +266,7 @@ public final class EditsTest {
     /** EDITS that only let b go: laid on a PICTURE without b. */
     private static void goesWithoutOne() {
         GraphPhotographer g = new GraphPhotographer();
-        int k = node(g);
+        int k = Graphs.node(g);
         g.record(k);
         g.record(k);
         g.set(0, 1, 1);
@@ -299,7 +291,7 @@ public final class EditsTest {
     /** The ROOT goes, then a, and b behind it, which the other PICTURE has not. */
     private static void misfitOfGoesAlone() {
         GraphPhotographer g = new GraphPhotographer();
-        int k = node(g);
+        int k = Graphs.node(g);
         g.record(k);
         g.record(k);
         g.set(0, 1, 1);
@@ -318,7 +310,7 @@ public final class EditsTest {
 
     private static void misfitBehindAll() {
         GraphPhotographer g = new GraphPhotographer();
-        int k = node(g);
+        int k = Graphs.node(g);
         g.record(k);
         g.record(k);
         g.name(0, 0);

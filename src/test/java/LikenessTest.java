@@ -22,18 +22,10 @@ public final class LikenessTest {
         CHECKS.due(call, got, want);
     }
 
-    private static int node(GraphPhotographer g) {
-        int k = g.kind(0);
-        g.component(k, 4);
-        g.component(k, 8);
-        g.close(k);
-        return k;
-    }
-
     private static void whatTellsApart() {
         GraphPhotographer g = new GraphPhotographer();
-        int k = node(g);
-        int l = node(g);
+        int k = Graphs.node(g);
+        int l = Graphs.node(g);
         int a = g.record(k);
         int b = g.record(k);
         int c = g.record(l);
@@ -77,7 +69,7 @@ public final class LikenessTest {
 
     private static void circles() {
         GraphPhotographer g = new GraphPhotographer();
-        int k = node(g);
+        int k = Graphs.node(g);
         int a = g.record(k);
         int b = g.record(k);
         int c = g.record(k);
@@ -93,7 +85,7 @@ public final class LikenessTest {
 
     private static void circlesOfTwoLengths() {
         GraphPhotographer g = new GraphPhotographer();
-        int k = node(g);
+        int k = Graphs.node(g);
         for (int i = 0; i < 5; i++) g.record(k);
         for (int i = 0; i < 2; i++) g.set(i, 1, (i + 1) % 2);
         for (int i = 0; i < 3; i++) g.set(2 + i, 1, 2 + (i + 1) % 3);
@@ -107,7 +99,7 @@ public final class LikenessTest {
 
     private static void lateDifference() {
         GraphPhotographer g = new GraphPhotographer();
-        int k = node(g);
+        int k = Graphs.node(g);
         for (int i = 0; i < 40; i++) g.record(k);
         for (int i = 0; i < 19; i++) {
             g.set(i, 1, i + 1);
@@ -124,7 +116,7 @@ public final class LikenessTest {
 
     private static void longChain() {
         GraphPhotographer g = new GraphPhotographer();
-        int k = node(g);
+        int k = Graphs.node(g);
         g.record(k);
         int end = 0;
         // each time a copy hangs behind: 256 in one chain
@@ -142,7 +134,7 @@ public final class LikenessTest {
 
     private static void wrongOnes() {
         GraphPhotographer g = new GraphPhotographer();
-        int a = g.record(node(g));
+        int a = g.record(Graphs.node(g));
         due("24: UNKNOWN ahead of NULL", g.like(-1, 99), UNKNOWN);
         due("24: UNKNOWN: x", g.like(99, a), UNKNOWN);
         due("24: UNKNOWN: y", g.like(a, -2), UNKNOWN);
@@ -165,7 +157,7 @@ public final class LikenessTest {
 
     private static void hashes() {
         GraphPhotographer g = new GraphPhotographer();
-        int k = node(g);
+        int k = Graphs.node(g);
         int a = g.record(k);
         int box = g.box(5, Long.MIN_VALUE + 3);
         g.put(a, 0, 4, -7);
@@ -188,7 +180,7 @@ public final class LikenessTest {
 
     private static void hashDepth() {
         GraphPhotographer g = new GraphPhotographer();
-        int k = node(g);
+        int k = Graphs.node(g);
         int a = g.record(k);
         g.put(a, 0, 4, 6);
         g.set(a, 1, a);
@@ -198,7 +190,7 @@ public final class LikenessTest {
 
     private static void leastOnes() {
         GraphPhotographer g = new GraphPhotographer();
-        int k = node(g);
+        int k = Graphs.node(g);
         int keeper = g.make(g.rowOf(8), 3);
         int a = g.box(4, 500);
         int b = g.box(4, 600);

@@ -22,27 +22,9 @@ public final class PicturesTest {
         CHECKS.due(call, got, want);
     }
 
-    private static int node(GraphPhotographer g) {
-        int k = g.kind(0);
-        g.component(k, 4);
-        g.component(k, 8);
-        g.close(k);
-        return k;
-    }
-
-    private static void fill(GraphPhotographer g, int left) {
-        int row = g.rowOf(0);
-        for (int i = g.count(1); i < 300 - left; i++) g.make(row, 0);
-    }
-
-    private static long value(GraphPhotographer g, int x, int i) {
-        g.get(x, i);
-        return g.seen();
-    }
-
     private static void taking() {
         GraphPhotographer g = new GraphPhotographer();
-        int k = node(g);
+        int k = Graphs.node(g);
         int a = g.record(k);
         int b = g.record(k);
         int unreached = g.record(k);
@@ -71,7 +53,7 @@ public final class PicturesTest {
 
     private static void asking() {
         GraphPhotographer g = new GraphPhotographer();
-        int k = node(g);
+        int k = Graphs.node(g);
         int a = g.record(k);
         int row = g.make(g.rowOf(8), 3);
         int box = g.box(4, 1000);
@@ -93,7 +75,7 @@ public final class PicturesTest {
 
     private static void entries() {
         GraphPhotographer g = new GraphPhotographer();
-        int k = node(g);
+        int k = Graphs.node(g);
         int a = g.record(k);
         int box = g.box(4, 1000);
         g.put(a, 0, 4, -5);
@@ -127,7 +109,7 @@ public final class PicturesTest {
 
     private static void neverChange() {
         GraphPhotographer g = new GraphPhotographer();
-        int a = g.record(node(g));
+        int a = g.record(Graphs.node(g));
         g.put(a, 0, 4, 1);
         g.name(0, a);
         g.photo();
@@ -145,7 +127,7 @@ public final class PicturesTest {
 
     private static void restoring() {
         GraphPhotographer g = new GraphPhotographer();
-        int k = node(g);
+        int k = Graphs.node(g);
         int a = g.record(k);
         int b = g.record(k);
         int row = g.make(g.rowOf(8), 3);
@@ -165,11 +147,11 @@ public final class PicturesTest {
         due("41: ROOT 1", g.root(1), -1);
         due("41: ROOT 3", g.root(3), 4);
         due("41: by numbers", g.classOf(3), k);
-        due("41: WORD", value(g, 3, 0), 7);
-        due("41: the old one stays", value(g, a, 0), 8);
-        due("41: THING", value(g, 3, 1), 5);
-        due("41: in a circle", value(g, 5, 0), 3);
-        due("41: NONE", value(g, 5, 2), -1);
+        due("41: WORD", Graphs.value(g, 3, 0), 7);
+        due("41: the old one stays", Graphs.value(g, a, 0), 8);
+        due("41: THING", Graphs.value(g, 3, 1), 5);
+        due("41: in a circle", Graphs.value(g, 5, 0), 3);
+        due("41: NONE", Graphs.value(g, 5, 2), -1);
         due("41: SEALED", g.sealed(4), 1);
         due("41: LOOSE", g.sealed(3), 0);
         due("41: none", g.restore(1), UNKNOWN);
@@ -189,15 +171,15 @@ public final class PicturesTest {
         g.photo();
         due("41: the one that is there, two anew", g.restore(0), 3);
         due("41: ROOT", g.root(0), 4);
-        due("41: it", value(g, 4, 0), five);
-        due("41: anew", value(g, 4, 1), 5);
-        due("41: each", value(g, 4, 2), 6);
+        due("41: it", Graphs.value(g, 4, 0), five);
+        due("41: anew", Graphs.value(g, 4, 1), 5);
+        due("41: each", Graphs.value(g, 4, 2), 6);
         g.name(0, -1);
         g.sweep();
         due("41: all anew", g.restore(0), 4);
-        due("41: it", value(g, 7, 0), 8);
+        due("41: it", Graphs.value(g, 7, 0), 8);
         due("12: it is the one", g.box(4, 5), 8);
-        due("14: its WORD", value(g, 8, 0), 5);
+        due("14: its WORD", Graphs.value(g, 8, 0), 5);
     }
 
     /** A merge can hold two ENTRIES for BOXES that are one and the same: the older one was GONE between two photos. */
@@ -222,7 +204,7 @@ public final class PicturesTest {
         g.name(0, -1);
         g.name(1, -1);
         g.sweep();
-        fill(g, 1);
+        Graphs.fill(g, 1);
         due("41: one for both", g.restore(3), 1);
         due("41: ROOT 0", g.root(0), 299);
         due("41: ROOT 1", g.root(1), 299);
@@ -232,7 +214,7 @@ public final class PicturesTest {
         GraphPhotographer g = new GraphPhotographer();
         g.name(0, g.multi(g.rowOf(g.rowOf(4)), 3, 1));
         g.photo();
-        fill(g, 4);
+        Graphs.fill(g, 4);
         g.name(1, 0);
         g.photo();
         due("41: just all", g.restore(0), 4);
@@ -252,7 +234,7 @@ public final class PicturesTest {
             g.photo();
             g.name(0, -1);
             g.sweep();
-            fill(g, left);
+            Graphs.fill(g, left);
             due("41: left " + left, g.restore(0), left == 6 ? 6 : FULL);
             due("41: made", g.count(1), left == 6 ? 300 : 295);
             due("41: ROOT", g.root(0), left == 6 ? 294 : -1);
@@ -265,7 +247,7 @@ public final class PicturesTest {
         g.photo();
         g.name(1, g.box(4, 500));
         g.photo();
-        fill(g, 0);
+        Graphs.fill(g, 0);
         due("41: the one that is there takes no room", g.restore(0), 0);
         due("41: the other one does", g.restore(1), FULL);
         due("41: ROOT 1 as it was", g.root(1), -1);

@@ -16,17 +16,9 @@ public final class RootsTest {
         CHECKS.due(call, got, want);
     }
 
-    private static int node(GraphPhotographer g) {
-        int k = g.kind(0);
-        g.component(k, 4);
-        g.component(k, 8);
-        g.close(k);
-        return k;
-    }
-
     private static void naming() {
         GraphPhotographer g = new GraphPhotographer();
-        int a = g.record(node(g));
+        int a = g.record(Graphs.node(g));
         int b = g.box(4, 1);
         due("28: name(5, a)", g.name(5, a), -1);
         due("28: name(5, b)", g.name(5, b), a);
@@ -47,7 +39,7 @@ public final class RootsTest {
 
     private static void ways() {
         GraphPhotographer g = new GraphPhotographer();
-        int a = g.record(node(g));
+        int a = g.record(Graphs.node(g));
         int row = g.make(g.rowOf(8), 16);
         int box = g.box(4, 1);
         g.set(a, 1, row);
@@ -89,7 +81,7 @@ public final class RootsTest {
 
     private static void sweeping() {
         GraphPhotographer g = new GraphPhotographer();
-        int k = node(g);
+        int k = Graphs.node(g);
         int loose = g.record(k);
         int behind = g.make(g.rowOf(8), 1);
         int box = g.box(4, 5);
@@ -112,7 +104,7 @@ public final class RootsTest {
 
     private static void sweepingSealed() {
         GraphPhotographer g = new GraphPhotographer();
-        int k = node(g);
+        int k = Graphs.node(g);
         int a = g.record(k);
         int b = g.record(k);
         g.set(a, 1, b);

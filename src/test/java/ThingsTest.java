@@ -36,26 +36,6 @@ public final class ThingsTest {
         CHECKS.due(call, got, want);
     }
 
-    /** A KIND with an int and an ANY. */
-    private static int node(GraphPhotographer g) {
-        int k = g.kind(0);
-        g.component(k, 4);
-        g.component(k, 8);
-        g.close(k);
-        return k;
-    }
-
-    /** Leaves room for so many more THINGS. */
-    private static void fill(GraphPhotographer g, int left) {
-        int row = g.rowOf(0);
-        for (int i = g.count(1); i < 300 - left; i++) g.make(row, 0);
-    }
-
-    private static long value(GraphPhotographer g, int x, int i) {
-        g.get(x, i);
-        return g.seen();
-    }
-
     private static void making() {
         GraphPhotographer g = new GraphPhotographer();
         int ints = g.rowOf(4);
@@ -73,7 +53,7 @@ public final class ThingsTest {
         due("9: UNKNOWN ahead", g.make(99, 17), UNKNOWN);
         due("9: make(4, 1)", g.make(4, 1), OUTSIDE);
         due("9: make(14, 1)", g.make(14, 1), OUTSIDE);
-        due("9: make(node, 1)", g.make(node(g), 1), OUTSIDE);
+        due("9: make(node, 1)", g.make(Graphs.node(g), 1), OUTSIDE);
         due("9: make(ints, 17)", g.make(ints, 17), OUTSIDE);
         due("9: OUTSIDE ahead of SIZE", g.make(4, -1), OUTSIDE);
         due("9: make(ints, -1)", g.make(ints, -1), SIZE);
@@ -83,7 +63,7 @@ public final class ThingsTest {
 
     private static void makingWhenFull() {
         GraphPhotographer g = new GraphPhotographer();
-        fill(g, 1);
+        Graphs.fill(g, 1);
         int row = g.rowOf(4);
         due("9: the 300th", g.make(row, 1), 299);
         due("9: the 301st", g.make(row, 1), FULL);
@@ -129,7 +109,7 @@ public final class ThingsTest {
     private static void manyWhenFull() {
         GraphPhotographer g = new GraphPhotographer();
         int rows = g.rowOf(g.rowOf(4));
-        fill(g, 3);
+        Graphs.fill(g, 3);
         due("10: not all", g.multi(rows, 3, 1), FULL);
         due("10: FULL ahead of SIZE", g.multi(rows, 3, -1), FULL);
         due("10: nothing was made", g.count(1), 297);
@@ -139,7 +119,7 @@ public final class ThingsTest {
 
     private static void records() {
         GraphPhotographer g = new GraphPhotographer();
-        int k = node(g);
+        int k = Graphs.node(g);
         int empty = g.kind(0);
         due("11: OPEN", g.record(empty), STATE);
         g.close(empty);
@@ -158,7 +138,7 @@ public final class ThingsTest {
         due("11: record(14)", g.record(14), OUTSIDE);
         due("11: a FACE", g.record(g.face()), OUTSIDE);
         int open = g.kind(0);
-        fill(g, 0);
+        Graphs.fill(g, 0);
         due("11: STATE ahead of FULL", g.record(open), STATE);
         due("11: FULL", g.record(k), FULL);
     }
@@ -212,7 +192,7 @@ public final class ThingsTest {
     private static void boxesWhenFull() {
         GraphPhotographer g = new GraphPhotographer();
         int five = g.box(4, 5);
-        fill(g, 0);
+        Graphs.fill(g, 0);
         due("12: the one there is", g.box(4, 5), five);
         due("12: a new one", g.box(4, 6), FULL);
         due("12: OUTSIDE ahead", g.box(6, 0x7fc00000L), OUTSIDE);
@@ -220,7 +200,7 @@ public final class ThingsTest {
 
     private static void sealing() {
         GraphPhotographer g = new GraphPhotographer();
-        int x = g.record(node(g));
+        int x = g.record(Graphs.node(g));
         int row = g.make(g.rowOf(4), 1);
         int box = g.box(4, 1);
         due("13: seal(99)", g.seal(99), UNKNOWN);
@@ -235,7 +215,7 @@ public final class ThingsTest {
 
     private static void getting() {
         GraphPhotographer g = new GraphPhotographer();
-        int x = g.record(node(g));
+        int x = g.record(Graphs.node(g));
         int box = g.box(4, 77);
         g.put(x, 0, 4, -6);
         g.set(x, 1, box);
@@ -258,21 +238,21 @@ public final class ThingsTest {
         GraphPhotographer g = new GraphPhotographer();
         int doubles = g.make(g.rowOf(7), 3);
         due("15: an int", g.put(doubles, 1, 4, 3), 0);
-        due("15: as a double", value(g, doubles, 1), Double.doubleToLongBits(3));
+        due("15: as a double", Graphs.value(g, doubles, 1), Double.doubleToLongBits(3));
         due("15: a float", g.put(doubles, 2, 6, Float.floatToIntBits(1.5f)), 0);
-        due("15: as a double", value(g, doubles, 2), Double.doubleToLongBits(1.5));
-        due("15: the others as they were", value(g, doubles, 0), 0);
-        int x = g.record(node(g));
+        due("15: as a double", Graphs.value(g, doubles, 2), Double.doubleToLongBits(1.5));
+        due("15: the others as they were", Graphs.value(g, doubles, 0), 0);
+        int x = g.record(Graphs.node(g));
         due("15: of a RECORD", g.put(x, 0, 2, -1), 0);
-        due("15: char to int", value(g, x, 0), 65535);
+        due("15: char to int", Graphs.value(g, x, 0), 65535);
         due("15: not PLAIN", g.put(x, 1, 4, 1), UNLIKE);
         due("15: does not widen", g.put(x, 0, 5, 1), UNLIKE);
-        due("15: as it was", value(g, x, 0), 65535);
+        due("15: as it was", Graphs.value(g, x, 0), 65535);
     }
 
     private static void puttingInOrder() {
         GraphPhotographer g = new GraphPhotographer();
-        int x = g.record(node(g));
+        int x = g.record(Graphs.node(g));
         int box = g.box(4, 1);
         g.seal(x);
         due("15: UNKNOWN", g.put(99, 9, 9, 0), UNKNOWN);
@@ -286,7 +266,7 @@ public final class ThingsTest {
         due("15: INDEX", g.put(y, 2, 5, 0), INDEX);
         due("15: INDEX below", g.put(y, -1, 5, 0), INDEX);
         due("15: UNLIKE", g.put(y, 0, 5, 0), UNLIKE);
-        due("15: a BOX is as it was", value(g, box, 0), 1);
+        due("15: a BOX is as it was", Graphs.value(g, box, 0), 1);
     }
 
     private static void setting() {
@@ -297,17 +277,17 @@ public final class ThingsTest {
         g.component(k, face);
         g.close(k);
         int x = g.record(k);
-        int other = g.record(node(g));
+        int other = g.record(Graphs.node(g));
         int shorts = g.box(3, 300);
         due("16: itself", g.set(x, 1, x), 0);
-        due("16: it", value(g, x, 1), x);
+        due("16: it", Graphs.value(g, x, 1), x);
         due("16: another CLASS", g.set(x, 1, other), STORE);
         due("16: a BOX", g.set(x, 1, shorts), STORE);
-        due("16: as it was", value(g, x, 1), x);
+        due("16: as it was", Graphs.value(g, x, 1), x);
         due("16: NONE", g.set(x, 1, -1), 0);
-        due("16: it", value(g, x, 1), -1);
+        due("16: it", Graphs.value(g, x, 1), -1);
         due("16: PLAIN: what is in a BOX", g.set(x, 0, shorts), 0);
-        due("16: as a float", value(g, x, 0), Float.floatToIntBits(300));
+        due("16: as a float", Graphs.value(g, x, 0), Float.floatToIntBits(300));
         due("16: PLAIN: NULL", g.set(x, 0, -1), NULL);
         due("16: PLAIN: no BOX", g.set(x, 0, other), UNLIKE);
         due("16: PLAIN: does not widen", g.set(x, 0, g.box(7, 0)), UNLIKE);
@@ -320,7 +300,7 @@ public final class ThingsTest {
 
     private static void settingInOrder() {
         GraphPhotographer g = new GraphPhotographer();
-        int x = g.record(node(g));
+        int x = g.record(Graphs.node(g));
         int y = g.record(g.classOf(x));
         int box = g.box(4, 1);
         g.seal(x);
@@ -345,7 +325,7 @@ public final class ThingsTest {
         due("17: copy(x, 1, y, 2, 3)", g.copy(x, 1, y, 2, 3), 0);
         due("17: SEEN", g.seen(), 3);
         long[] want = {0, 0, 11, 12, 13};
-        for (int i = 0; i < 5; i++) due("17: ELEMENT " + i, value(g, y, i), want[i]);
+        for (int i = 0; i < 5; i++) due("17: ELEMENT " + i, Graphs.value(g, y, i), want[i]);
         due("17: none", g.copy(x, 4, y, 5, 0), 0);
         due("17: SEEN", g.seen(), 0);
         int rows = g.rowOf(row);
@@ -353,9 +333,9 @@ public final class ThingsTest {
         int a = g.multi(rows, 2, 0);
         int b = g.make(anys, 2);
         due("17: up", g.copy(a, 0, b, 0, 2), 0);
-        due("17: it", value(g, b, 1), a + 2);
+        due("17: it", Graphs.value(g, b, 1), a + 2);
         due("17: down, as it fits", g.copy(b, 1, a, 0, 1), 0);
-        due("17: it", value(g, a, 0), a + 2);
+        due("17: it", Graphs.value(g, a, 0), a + 2);
     }
 
     private static void copyingOverItself() {
@@ -365,7 +345,7 @@ public final class ThingsTest {
             for (int i = 0; i < 5; i++) g.put(x, i, 4, i);
             due("17: over itself", forth == 1 ? g.copy(x, 0, x, 1, 4) : g.copy(x, 1, x, 0, 4), 0);
             long[] want = forth == 1 ? new long[] {0, 0, 1, 2, 3} : new long[] {1, 2, 3, 4, 4};
-            for (int i = 0; i < 5; i++) due("17: ELEMENT " + i, value(g, x, i), want[i]);
+            for (int i = 0; i < 5; i++) due("17: ELEMENT " + i, Graphs.value(g, x, i), want[i]);
         }
     }
 
@@ -374,7 +354,7 @@ public final class ThingsTest {
         int ints = g.make(g.rowOf(4), 2);
         int longs = g.make(g.rowOf(5), 2);
         int anys = g.make(g.rowOf(8), 2);
-        int record = g.record(node(g));
+        int record = g.record(Graphs.node(g));
         int box = g.box(4, 1);
         due("17: UNKNOWN: x", g.copy(99, 0, -1, 0, 9), UNKNOWN);
         due("17: UNKNOWN: y", g.copy(-1, 0, 99, 0, 9), UNKNOWN);
@@ -395,7 +375,7 @@ public final class ThingsTest {
 
     private static void copyingStopsAtTheFirst() {
         GraphPhotographer g = new GraphPhotographer();
-        int k = node(g);
+        int k = Graphs.node(g);
         int a = g.record(k);
         int x = g.make(g.rowOf(8), 4);
         int y = g.make(g.rowOf(k), 4);
@@ -406,16 +386,16 @@ public final class ThingsTest {
         due("17: INDEX ahead of one that does not fit", g.copy(x, 2, y, 0, 3), INDEX);
         due("17: one does not fit", g.copy(x, 0, y, 0, 4), STORE);
         due("17: how many came", g.seen(), 2);
-        due("17: came", value(g, y, 0), a);
-        due("17: did not come", value(g, y, 3), -1);
+        due("17: came", Graphs.value(g, y, 0), a);
+        due("17: did not come", Graphs.value(g, y, 3), -1);
         due("17: the first does not fit", g.copy(x, 2, y, 0, 2), STORE);
         due("17: none came", g.seen(), 0);
-        due("17: as it was", value(g, y, 0), a);
+        due("17: as it was", Graphs.value(g, y, 0), a);
     }
 
     private static void askingThree() {
         GraphPhotographer g = new GraphPhotographer();
-        int x = g.record(node(g));
+        int x = g.record(Graphs.node(g));
         int row = g.make(g.rowOf(4), 7);
         int box = g.box(5, 1);
         due("18: RECORD", g.length(x), 2);
@@ -444,7 +424,7 @@ public final class ThingsTest {
 
     private static void shallowCopies() {
         GraphPhotographer g = new GraphPhotographer();
-        int x = g.record(node(g));
+        int x = g.record(Graphs.node(g));
         int row = g.make(g.rowOf(8), 2);
         g.set(row, 1, row);
         g.set(row, 0, x);
@@ -452,13 +432,13 @@ public final class ThingsTest {
         due("21: a BOX", g.shallow(g.box(4, 1)), 2);
         due("21: a ROW", g.shallow(row), 3);
         due("21: its CLASS", g.classOf(3), g.classOf(row));
-        due("21: ELEMENT 0", value(g, 3, 0), x);
-        due("21: ELEMENT 1 is the old one", value(g, 3, 1), row);
+        due("21: ELEMENT 0", Graphs.value(g, 3, 0), x);
+        due("21: ELEMENT 1 is the old one", Graphs.value(g, 3, 1), row);
         g.set(3, 0, -1);
-        due("21: it is another one", value(g, row, 0), x);
+        due("21: it is another one", Graphs.value(g, row, 0), x);
         due("21: NONE", g.shallow(-1), NULL);
         due("21: 99", g.shallow(99), UNKNOWN);
-        fill(g, 0);
+        Graphs.fill(g, 0);
         due("21: FULL", g.shallow(row), FULL);
         due("21: a RECORD itself", g.shallow(x), x);
         due("21: a BOX itself", g.shallow(2), 2);
@@ -467,7 +447,7 @@ public final class ThingsTest {
 
     private static void deepCopies() {
         GraphPhotographer g = new GraphPhotographer();
-        int k = node(g);
+        int k = Graphs.node(g);
         int a = g.record(k);
         int row = g.make(g.rowOf(8), 4);
         int box = g.box(4, 1000);
@@ -481,19 +461,19 @@ public final class ThingsTest {
         g.seal(b);
         due("22: deep(a)", g.deep(a), 4);
         due("22: how many", g.count(1), 7);
-        due("22: its WORD", value(g, 4, 0), 5);
-        due("22: its ROW", value(g, 4, 1), 5);
-        due("22: in a circle", value(g, 5, 0), 4);
-        due("22: b's", value(g, 5, 1), 6);
-        due("22: the BOX itself", value(g, 5, 2), box);
-        due("22: shared", value(g, 5, 3), 6);
+        due("22: its WORD", Graphs.value(g, 4, 0), 5);
+        due("22: its ROW", Graphs.value(g, 4, 1), 5);
+        due("22: in a circle", Graphs.value(g, 5, 0), 4);
+        due("22: b's", Graphs.value(g, 5, 1), 6);
+        due("22: the BOX itself", Graphs.value(g, 5, 2), box);
+        due("22: shared", Graphs.value(g, 5, 3), 6);
         due("22: SEALED", g.sealed(6), 1);
         due("22: LOOSE", g.sealed(4), 0);
         due("22: LIKE", g.like(a, 4), 1);
         due("22: of a BOX", g.deep(box), box);
         due("22: NONE", g.deep(-1), NULL);
         due("22: 99", g.deep(99), UNKNOWN);
-        due("22: the old one is as it was", value(g, row, 0), a);
+        due("22: the old one is as it was", Graphs.value(g, row, 0), a);
     }
 
     /** ELEMENTS of each that came, in order: those of the first one are numbered ahead of what these have. */
@@ -515,7 +495,7 @@ public final class ThingsTest {
         GraphPhotographer g = new GraphPhotographer();
         int x = g.multi(g.rowOf(g.rowOf(4)), 3, 1);
         int box = g.box(4, 1);
-        fill(g, 3);
+        Graphs.fill(g, 3);
         due("22: not all", g.deep(x), FULL);
         due("22: nothing was made", g.count(1), 297);
         g.set(x, 0, -1);

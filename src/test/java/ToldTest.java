@@ -16,14 +16,6 @@ public final class ToldTest {
         CHECKS.due(call, got, want);
     }
 
-    private static int node(GraphPhotographer g) {
-        int k = g.kind(0);
-        g.component(k, 4);
-        g.component(k, 8);
-        g.close(k);
-        return k;
-    }
-
     private static void found(GraphPhotographer g, long answer, int f, int often) {
         due("4: -10 less it", answer, -10 - f);
         due("42: finding()", g.finding(), f);
@@ -34,7 +26,7 @@ public final class ToldTest {
         GraphPhotographer g = new GraphPhotographer();
         due("42: before any", g.finding(), 0);
         for (int f = 1; f < 9; f++) due("43: findings(" + f + ")", g.findings(f), 0);
-        int x = g.record(node(g));
+        int x = g.record(Graphs.node(g));
         int row = g.make(g.rowOf(20), 2);
         int box = g.box(4, 1);
         found(g, g.get(-1, 0), 1, 1);
@@ -75,7 +67,7 @@ public final class ToldTest {
     private static void counts() {
         GraphPhotographer g = new GraphPhotographer();
         g.face();
-        int k = node(g);
+        int k = Graphs.node(g);
         g.rowOf(4);
         g.rowOf(4);
         int x = g.record(k);
@@ -102,7 +94,7 @@ public final class ToldTest {
     private static void digests() {
         GraphPhotographer g = new GraphPhotographer();
         due("45: nothing", g.digest(), mix(-1, -1, -1, -1, -1, -1, 0));
-        int k = node(g);
+        int k = Graphs.node(g);
         g.make(g.rowOf(5), 1);
         int x = g.record(k);
         int box = g.box(5, Long.MAX_VALUE);
@@ -124,7 +116,7 @@ public final class ToldTest {
             Integer.MAX_VALUE};
         GraphPhotographer g = new GraphPhotographer();
         g.face();
-        int x = g.record(node(g));
+        int x = g.record(Graphs.node(g));
         g.set(x, 1, g.multi(g.rowOf(g.rowOf(4)), 3, 3));
         g.name(0, x);
         g.photo();
