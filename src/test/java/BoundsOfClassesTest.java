@@ -82,7 +82,7 @@ public final class BoundsOfClassesTest extends Bounds {
 
     private static GraphPhotographer eightFaces() {
         GraphPhotographer g = Scenes.rich();
-        while (g.count(5) < 8) g.face();
+        for (int n = g.count(5); n < 8; n++) g.face();
         return g;
     }
 

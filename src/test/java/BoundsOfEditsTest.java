@@ -184,6 +184,27 @@ public final class BoundsOfEditsTest extends Bounds {
         due("of nothing", empty().differ(0, 1), 0);
     }
 
+    /** PICTURE 0 was taken when there was nothing yet. */
+    @Sentence("EDITS become those that make q of p: how many.")
+    static void p35_ofWhatWasMadeBehindIt() {
+        GraphPhotographer g = new GraphPhotographer();
+        g.photo();
+        g.name(0, g.make(g.rowOf(4), 16));
+        g.put(0, 15, 4, 6);
+        g.photo();
+        g.name(1, g.box(4, 500));
+        g.photo();
+        due("differ(0, 2)", g.differ(0, 2), 6);
+        due("lay(0)", g.lay(0), 3);
+        due("it is 2", g.differ(3, 2), 0);
+        due("differ(2, 0)", g.differ(2, 0), 4);
+        due("lay(2)", g.lay(2), 4);
+        due("it is 0", g.differ(4, 0), 0);
+        due("differ(1, 2)", g.differ(1, 2), 3);
+        due("lay(1)", g.lay(1), 5);
+        due("it is 2", g.differ(2, 5), 0);
+    }
+
     private static GraphPhotographer empty() {
         GraphPhotographer g = new GraphPhotographer();
         g.photo();
@@ -322,7 +343,7 @@ public final class BoundsOfEditsTest extends Bounds {
         g.differ(0, 1);
         due("none of them, but told", g.lay(0), 2);
         GraphPhotographer h = empty();
-        while (h.count(3) < 12) h.photo();
+        for (int p = 2; p < 12; p++) h.photo();
         due("ahead of FULL", h.lay(0), STATE);
     }
 
@@ -331,7 +352,7 @@ public final class BoundsOfEditsTest extends Bounds {
         refused("a 13th", Scenes::fullOfPictures, g -> g.lay(0), FULL);
         refused("ahead of MISFIT", Scenes::fullOfPictures, g -> g.lay(1), FULL);
         GraphPhotographer g = Scenes.rich();
-        while (g.count(3) < 11) g.photo();
+        for (int p = 3; p < 11; p++) g.photo();
         due("the 12th", g.lay(0), 11);
     }
 

@@ -264,6 +264,18 @@ public final class BoundsOfLikenessTest extends Bounds {
     // ---- promise 26
 
     @Sentence("The least THING (that is there) that is LIKE.")
+    static void p26_asTheFirstCall() {
+        GraphPhotographer g = new GraphPhotographer();
+        g.box(4, 500);
+        g.box(4, 501);
+        due("no other one is LIKE", g.least(1), 1);
+        g.box(4, 500);
+        due("one that is made then", g.least(2), 0);
+        g.box(4, 501);
+        due("one of two", g.least(3), 1);
+    }
+
+    @Sentence("The least THING (that is there) that is LIKE.")
     static void p26_leastThatIsThere() {
         GraphPhotographer g = new GraphPhotographer();
         int anys = g.rowOf(8);

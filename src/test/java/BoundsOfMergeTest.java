@@ -314,6 +314,28 @@ public final class BoundsOfMergeTest extends Bounds {
         due("ENTRIES", h.picture(1, 0), 0);
     }
 
+    /** PICTURE 0 was taken when there was nothing yet, 1 when there was no BOX. */
+    @Sentence("p and q MERGED by b: a new PICTURE: its number.")
+    static void p39_ofWhatWasMadeBehindIt() {
+        GraphPhotographer g = new GraphPhotographer();
+        g.photo();
+        g.name(0, g.make(g.rowOf(4), 16));
+        g.put(0, 15, 4, 6);
+        g.photo();
+        g.name(1, g.box(4, 500));
+        g.photo();
+        due("what COMES in q", g.merge(0, 0, 2), 3);
+        due("it is 2", g.differ(3, 2), 0);
+        due("what COMES in p", g.merge(0, 2, 1), 4);
+        due("it is 2", g.differ(4, 2), 0);
+        due("what GOES", g.merge(2, 1, 0), 5);
+        due("it is 0", g.differ(5, 0), 0);
+        g.name(0, NONE);
+        g.photo();
+        due("both", g.merge(1, 2, 6), 7);
+        due("it is 6", g.differ(7, 6), 0);
+    }
+
     @Sentence("UNKNOWN; FULL; CONFLICTS")
     static void p39_UNKNOWN() {
         for (int z : NO_PICTURES) {
@@ -330,7 +352,7 @@ public final class BoundsOfMergeTest extends Bounds {
         refused("ahead of CONFLICTS", Scenes::fullOfPictures, g -> g.merge(0, 1, 2), FULL);
         refused("ahead of other CONFLICTS", Scenes::fullOfPictures, g -> g.merge(1, 0, 2), FULL);
         GraphPhotographer g = Scenes.rich();
-        while (g.count(3) < 11) g.photo();
+        for (int p = 3; p < 11; p++) g.photo();
         due("the 12th", g.merge(0, 0, 1), 11);
     }
 

@@ -226,6 +226,12 @@ public final class BoundsOfPicturesTest extends Bounds {
                 refused("entry(0, " + x + ", " + what + ")", Scenes::rich, g -> g.entry(0, x, what), NONE);
             }
         }
+        GraphPhotographer g = Scenes.rich();
+        g.name(0, g.make(Scenes.INTS, 16));
+        due("of what was made behind it", g.entry(0, Scenes.UNMADE, 0), NONE);
+        g.photo();
+        due("nor by another PICTURE", g.entry(2, Scenes.UNMADE, 18), NONE);
+        due("which has it", g.entry(3, Scenes.UNMADE, 18), 0);
     }
 
     @Sentence("INDEX.")

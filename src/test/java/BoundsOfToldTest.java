@@ -44,8 +44,8 @@ public final class BoundsOfToldTest extends Bounds {
     @Sentence("Refusals come ahead: UNKNOWN (no such CLASS, THING (that is there), PICTURE, ROOT), OUTSIDE (a number is not as told), STATE, FULL.")
     static void p00_FINDINGS_refusalsAreNone() {
         GraphPhotographer g = Scenes.fullOfThings();
-        while (g.count(0) < 40) g.kind(0);
-        while (g.count(3) < 12) g.photo();
+        for (int n = 12; n < 40; n++) g.kind(0);
+        for (int p = 3; p < 12; p++) g.photo();
         int latest = g.finding();
         int often = g.findings(latest);
         due("a CLASS", g.about(9, 0), UNKNOWN);

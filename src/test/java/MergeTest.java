@@ -245,7 +245,7 @@ public final class MergeTest {
         due("39: p", g.merge(0, 3, 0), UNKNOWN);
         due("39: q", g.merge(0, 0, -1), UNKNOWN);
         due("40: still told", g.conflict(-1, 0), 1);
-        while (g.count(3) < 12) g.photo();
+        for (int p = g.count(3); p < 12; p++) g.photo();
         due("39: UNKNOWN ahead of FULL", g.merge(0, 0, 12), UNKNOWN);
         due("39: FULL ahead of CONFLICTS", g.merge(0, 1, 2), FULL);
         due("39: FULL", g.merge(0, 1, 1), FULL);

@@ -92,8 +92,10 @@ final class Scenes {
     /** By nine at once, so that calls are left for what is asked then. */
     static void fill(GraphPhotographer g, int left) {
         int rows = g.rowOf(g.rowOf(4));
-        while (g.count(1) + 9 <= 300 - left) g.multi(rows, 8, 0);
-        while (g.count(1) < 300 - left) g.make(rows, 0);
+        int made = g.count(1);
+        // counted here, so that it ends whatever the program answers
+        for (; made + 9 <= 300 - left; made += 9) g.multi(rows, 8, 0);
+        for (; made < 300 - left; made++) g.make(rows, 0);
     }
 
     static GraphPhotographer fullOfThings() {
@@ -102,13 +104,13 @@ final class Scenes {
 
     static GraphPhotographer fullOfClasses() {
         GraphPhotographer g = rich();
-        while (g.count(0) < 40) g.kind(0);
+        for (int n = 12; n < 40; n++) g.kind(0);
         return g;
     }
 
     static GraphPhotographer fullOfPictures() {
         GraphPhotographer g = rich();
-        while (g.count(3) < 12) g.photo();
+        for (int p = 3; p < 12; p++) g.photo();
         return g;
     }
 
@@ -117,7 +119,7 @@ final class Scenes {
         GraphPhotographer g = new GraphPhotographer();
         g.record(Graphs.node(g));
         // each time a copy of all, at last of the last 44, hangs behind: 18 calls instead of 600
-        for (int end = 0; end < 299; end = g.count(1) - 1) g.set(end, 1, g.deep(end == 255 ? 212 : 0));
+        for (int end : new int[] {0, 1, 3, 7, 15, 31, 63, 127, 255}) g.set(end, 1, g.deep(end == 255 ? 212 : 0));
         return g;
     }
 
