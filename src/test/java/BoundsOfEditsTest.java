@@ -59,6 +59,24 @@ public final class BoundsOfEditsTest extends Bounds {
         due("not SEALED", h.entry(2, 0, 2), 0);
     }
 
+    /** Whatever a lay() that met MISFIT had in its place. */
+    @Sentence("with values 0, NONE, not SEALED")
+    static void p00_EDITS_COMES_behindMisfit() {
+        GraphPhotographer g = nodes(2);
+        photo(g, 0);
+        g.put(0, 0, 4, 9);
+        g.set(0, 1, 1);
+        g.seal(0);
+        photo(g, 0);
+        due("COMES, ROOT", g.differ(0, 1), 2);
+        due("on what has it, SEALED and with values", g.lay(2), MISFIT);
+        due("on what has it not", g.lay(0), 3);
+        due("0", value(g, 3, 0, 0), 0);
+        due("NONE", value(g, 3, 0, 1), NONE);
+        due("not SEALED", g.entry(3, 0, 2), 0);
+        due("as 1", g.differ(1, 3), 0);
+    }
+
     @Sentence("1 CHANGES: by numbers, by places: a value that was one thing (of those that COME 0, NONE) becomes another one")
     static void p00_EDITS_CHANGES() {
         GraphPhotographer g = nodes(3);
@@ -490,6 +508,40 @@ public final class BoundsOfEditsTest extends Bounds {
         misfit("a ROOT, that was there", () -> goneBehind(true), 2, 2);
     }
 
+    @Sentence("or, behind all, a value or a ROOT names what has no ENTRY.")
+    static void p37_MISFIT_behindAll_atEachPlace() {
+        for (int i = 0; i < 16; i++) {
+            int place = i;
+            misfit("place " + i, () -> danglingAt(place, NONE), 2, 1);
+        }
+        for (int r = 0; r < 6; r++) {
+            int root = r;
+            misfit("ROOT " + r, () -> danglingAt(NONE, root), 2, 1);
+        }
+    }
+
+    /** EDIT: a place of ROW 0, or a ROOT, becomes 1, which has another ROOT in PICTURES 0 and 1, and no ENTRY in 2. */
+    private static GraphPhotographer danglingAt(int place, int root) {
+        GraphPhotographer g = new GraphPhotographer();
+        int anys = g.rowOf(8);
+        g.make(anys, 16);
+        g.make(anys, 0);
+        int top = root == 1 ? 2 : 1;
+        int keeper = root == 3 ? 4 : 3;
+        g.name(top, 0);
+        g.name(keeper, 1);
+        g.photo();
+        if (place >= 0) g.set(0, place, 1);
+        if (root >= 0) g.name(root, 1);
+        g.photo();
+        if (place >= 0) g.set(0, place, NONE);
+        if (root >= 0) g.name(root, NONE);
+        g.name(keeper, NONE);
+        g.photo();
+        g.differ(0, 1);
+        return g;
+    }
+
     /** EDIT: 0's name becomes 1. PICTURE 3 has no 1. */
     private static GraphPhotographer dangling() {
         GraphPhotographer g = nodes(2);
@@ -541,6 +593,23 @@ public final class BoundsOfEditsTest extends Bounds {
         due("PICTURES", g.count(3), 4);
         due("the next one", g.lay(1), 4);
         due("as it is due", g.differ(2, 4), 0);
+    }
+
+    /** What is made between a lay() that met MISFIT and the next PICTURE is in that one. */
+    @Sentence("MISFIT: the first one that does not go")
+    static void p37_MISFIT_thenMoreThings() {
+        for (int n : new int[] {0, 1, 16}) {
+            GraphPhotographer g = changes();
+            due("lay(3)", g.lay(3), MISFIT);
+            g.name(5, g.make(g.rowOf(8), n));
+            due("photo()", g.photo(), 4);
+            due("it is there, with " + n, g.entry(4, 2, 1), n);
+            due("lay(3)", g.lay(3), MISFIT);
+            g.differ(0, 4);
+            due("lay(0)", g.lay(0), 5);
+            due("it is there", g.entry(5, 2, 1), n);
+            due("the same", g.differ(4, 5), 0);
+        }
     }
 
     // ---- promise 38

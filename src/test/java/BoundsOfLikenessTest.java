@@ -43,6 +43,27 @@ public final class BoundsOfLikenessTest extends Bounds {
         alike("BOXES of two CLASSES", g, g.box(4, 1), g.box(5, 1), 0);
     }
 
+    /** Many, since a program may mix numbers and so take two for one by chance. */
+    @Sentence("LIKE are two THINGS of one CLASS, as long")
+    static void p00_LIKE_classAndLengthWhateverTheWords() {
+        for (int many = 0; many < 60; many++) {
+            GraphPhotographer g = new GraphPhotographer();
+            int ints = g.rowOf(4);
+            for (int i = 0; i < 50; i++) {
+                long word = 128 + 50 * many + i;
+                int a = g.box(4, word);
+                int b = g.box(5, word);
+                int one = g.make(ints, 1);
+                g.put(one, 0, 4, word);
+                int two = g.make(ints, 2);
+                g.put(two, 0, 4, word);
+                due("BOXES of two CLASSES, " + word, g.like(a, b), 0);
+                due("one and two ELEMENTS, " + word, g.like(one, two), 0);
+            }
+            due("no two", g.groups(), 200);
+        }
+    }
+
     @Sentence("RECORDS both LOOSE or both SEALED")
     static void p00_LIKE_sealed() {
         GraphPhotographer g = nodes(4);
@@ -328,5 +349,9 @@ public final class BoundsOfLikenessTest extends Bounds {
         for (int i = 0; i < 300; i++) h.box(5, 1000);
         due("300 that are LIKE", h.groups(), 1);
         due("the least one", h.least(299), 0);
+        GraphPhotographer i = new GraphPhotographer();
+        for (int n = 0; n < 300; n++) i.box(5, 1000 + n % 150 * 37L);
+        due("150, each twice", i.groups(), 150);
+        for (int n = 0; n < 150; n++) due("the least one", i.least(150 + n), n);
     }
 }

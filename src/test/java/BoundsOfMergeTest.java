@@ -247,6 +247,21 @@ public final class BoundsOfMergeTest extends Bounds {
         }
     }
 
+    @Sentence("4 for each value (the number; its place)")
+    static void p00_MERGING_CONFLICT4ofEachPlace() {
+        for (int i = 0; i < 16; i++) {
+            GraphPhotographer g = new GraphPhotographer();
+            int anys = g.rowOf(8);
+            g.make(anys, 16);
+            g.make(anys, 0);
+            int b = photo(g, 0, 1);
+            int p = photo(g, 0);
+            g.set(0, i, 1);
+            int q = photo(g, 0, 1);
+            conflicts(g, b, p, q, new int[] {4, 0, i});
+        }
+    }
+
     private static int[] at(int r, int x) {
         int[] roots = {NONE, NONE, NONE, NONE, NONE, NONE};
         roots[r] = x;
@@ -399,6 +414,21 @@ public final class BoundsOfMergeTest extends Bounds {
         due("with CONFLICTS", g.merge(0, 1, 2), CONFLICTS);
         due("photo()", g.photo(), 4);
         due("as it is due", g.differ(0, 4), 0);
+    }
+
+    /** What is made between a merge() with CONFLICTS and the next PICTURE is in that one. */
+    @Sentence("CONFLICTS (they are told then, until another merge() that is not refused ahead of it).")
+    static void p39_CONFLICTS_thenMoreThings() {
+        for (int n : new int[] {0, 1, 16}) {
+            GraphPhotographer g = Scenes.rich();
+            due("with CONFLICTS", g.merge(0, 1, 2), CONFLICTS);
+            g.name(4, g.make(Scenes.ANYS, n));
+            due("photo()", g.photo(), 3);
+            due("it is there, with " + n, g.entry(3, Scenes.UNMADE, 1), n);
+            due("with CONFLICTS", g.merge(0, 1, 2), CONFLICTS);
+            due("merge", g.merge(0, 0, 3), 4);
+            due("the same", g.differ(3, 4), 0);
+        }
     }
 
     // ---- promise 40

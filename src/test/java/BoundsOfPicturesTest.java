@@ -351,6 +351,51 @@ public final class BoundsOfPicturesTest extends Bounds {
         }
     }
 
+    /** A merge() can have two ENTRIES of BOXES that are one and the same: one was GONE when the other one came. */
+    private static GraphPhotographer twoFives(int left) {
+        GraphPhotographer g = new GraphPhotographer();
+        g.photo();
+        g.name(0, g.box(4, 5));
+        g.photo();
+        g.name(0, NONE);
+        g.sweep();
+        g.name(1, g.box(4, 5));
+        g.name(2, g.box(5, 5));
+        g.name(3, g.box(4, 6));
+        g.photo();
+        g.merge(0, 1, 2);
+        for (int r = 0; r < 6; r++) g.name(r, NONE);
+        g.sweep();
+        Scenes.fill(g, left);
+        return g;
+    }
+
+    @Sentence("FULL: not all.")
+    static void p41_FULL_oneBoxForTwoEntries() {
+        GraphPhotographer g = twoFives(3);
+        due("four ENTRIES", g.picture(3, 0), 4);
+        due("three BOXES", g.restore(3), 3);
+        int[] roots = {297, 297, 298, 299, NONE, NONE};
+        for (int r = 0; r < 6; r++) due("ROOT " + r, g.root(r), roots[r]);
+        refused("one too few", () -> twoFives(2), h -> h.restore(3), FULL);
+    }
+
+    /** Two BOXES of a WORD for which they are not one and the same. */
+    private static GraphPhotographer twoBigOnes(int left) {
+        GraphPhotographer g = new GraphPhotographer();
+        g.name(0, g.box(4, 500));
+        g.name(1, g.box(4, 500));
+        g.photo();
+        Scenes.fill(g, left);
+        return g;
+    }
+
+    @Sentence("FULL: not all.")
+    static void p41_FULL_twoBoxesForTwoEntries() {
+        due("just both", twoBigOnes(2).restore(0), 2);
+        refused("one too few", () -> twoBigOnes(1), g -> g.restore(0), FULL);
+    }
+
     /** FIVE must be anew then, too. */
     @Sentence("FULL: not all.")
     static void p41_FULL_whenTheBoxIsGone() {

@@ -139,6 +139,22 @@ public final class BoundsOfTermsTest extends Bounds {
         }
     }
 
+    @Sentence("a ROW of REFERENCES is a ROW of whatever REFERENCE its ELEMENTS' CLASS is.")
+    static void p00_IS_fourRowsInOneAnother() {
+        GraphPhotographer g = Scenes.rich();
+        int[] tops = {Scenes.NODE, Scenes.FACE, 8, Scenes.OTHER_FACE, 4};
+        for (int n = 1; n <= 4; n++) {
+            for (int i = 0; i < 5; i++) tops[i] = g.rowOf(tops[i]);
+            due(n + ": of NODES, of its FACE", g.is(tops[0], tops[1]), 1);
+            due(n + ": of NODES, of ANYS", g.is(tops[0], tops[2]), 1);
+            due(n + ": of FACES, of ANYS", g.is(tops[1], tops[2]), 1);
+            due(n + ": of NODES, of another FACE", g.is(tops[0], tops[3]), 0);
+            due(n + ": of ints, of ANYS", g.is(tops[4], tops[2]), 0);
+            due(n + ": of ANYS, of NODES", g.is(tops[2], tops[0]), 0);
+            due(n + ": itself", g.is(tops[0], tops[0]), 1);
+        }
+    }
+
     // ---- WORDS
 
     /** What a WORD tells, by a BOX, by put() and by a PICTURE. */
