@@ -62,8 +62,12 @@ abstract class Bounds {
         for (int f = 1; f < 9; f++) {
             due(call + ", then findings(" + f + ")", g.findings(f), twin.findings(f) + (f == found ? 1 : 0));
         }
-        Map<String, Long> got = State.of(g);
-        Map<String, Long> was = State.of(twin);
+        Map<String, Long> got = State.of(() -> {
+            GraphPhotographer again = scene.get();
+            ask.applyAsInt(again);
+            return again;
+        });
+        Map<String, Long> was = State.of(scene);
         for (String name : mayChange) {
             got.remove(name);
             was.remove(name);

@@ -380,20 +380,27 @@ public final class BoundsOfPicturesTest extends Bounds {
         refused("one too few", () -> twoFives(2), h -> h.restore(3), FULL);
     }
 
-    /** Two BOXES of a WORD for which they are not one and the same. */
-    private static GraphPhotographer twoBigOnes(int left) {
+    /** Two BOXES that a PICTURE has, and that are GONE. */
+    private static GraphPhotographer twoBoxes(int k, long word, int otherK, long otherWord, int left) {
         GraphPhotographer g = new GraphPhotographer();
-        g.name(0, g.box(4, 500));
-        g.name(1, g.box(4, 500));
+        g.name(0, g.box(k, word));
+        g.name(1, g.box(otherK, otherWord));
         g.photo();
+        g.name(0, NONE);
+        g.name(1, NONE);
+        g.sweep();
         Scenes.fill(g, left);
         return g;
     }
 
     @Sentence("FULL: not all.")
     static void p41_FULL_twoBoxesForTwoEntries() {
-        due("just both", twoBigOnes(2).restore(0), 2);
-        refused("one too few", () -> twoBigOnes(1), g -> g.restore(0), FULL);
+        int[][] two = {{4, 500, 4, 500}, {4, 5, 4, 6}, {4, 5, 5, 5}, {4, 5, 4, 500}, {6, 0, 6, 0}};
+        for (int[] t : two) {
+            String call = t[0] + " of " + t[1] + " and " + t[2] + " of " + t[3];
+            due(call + ": just both", twoBoxes(t[0], t[1], t[2], t[3], 2).restore(0), 2);
+            refused(call + ": one too few", () -> twoBoxes(t[0], t[1], t[2], t[3], 1), g -> g.restore(0), FULL);
+        }
     }
 
     /** FIVE must be anew then, too. */

@@ -407,7 +407,7 @@ public final class BoundsOfTermsTest extends Bounds {
 
     private static int allBytes() {
         GraphPhotographer g = new GraphPhotographer();
-        for (int word = 0; word < 512; word++) g.box(1, word);
+        for (int word = 0; word < 511; word++) g.box(1, word);
         return g.count(1);
     }
 

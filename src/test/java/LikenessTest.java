@@ -212,19 +212,19 @@ public final class LikenessTest {
     private static void groupsOfWords() {
         GraphPhotographer g = new GraphPhotographer();
         int row = g.rowOf(5);
-        for (int i = 0; i < 300; i++) g.put(g.make(row, 1), 0, 5, (i % 150 + 1) * 0x9e3779b97f4a7c15L);
-        due("27: 150", g.groups(), 150);
-        for (int i = 0; i < 300; i += 7) due("26: least(" + i + ")", g.least(i), i % 150);
+        for (int i = 0; i < 200; i++) g.put(g.make(row, 1), 0, 5, (i % 100 + 1) * 0x9e3779b97f4a7c15L);
+        due("27: 100", g.groups(), 100);
+        for (int i = 0; i < 200; i += 7) due("26: least(" + i + ")", g.least(i), i % 100);
     }
 
     private static void groupsOfAll() {
         GraphPhotographer g = new GraphPhotographer();
         due("27: none", g.groups(), 0);
         int row = g.rowOf(4);
-        for (int i = 0; i < 300; i++) g.put(g.make(row, 1), 0, 4, i % 150);
-        due("27: 150", g.groups(), 150);
-        due("26: least(299)", g.least(299), 149);
-        due("24: like(0, 150)", g.like(0, 150), 1);
+        for (int i = 0; i < 200; i++) g.put(g.make(row, 1), 0, 4, i % 100);
+        due("27: 100", g.groups(), 100);
+        due("26: least(199)", g.least(199), 99);
+        due("24: like(0, 100)", g.like(0, 100), 1);
         g.sweep();
         due("27: all GONE", g.groups(), 0);
     }

@@ -110,7 +110,7 @@ public final class ToldTest {
                 -1, -1, x, -1, -1, -1, 1));
     }
 
-    /** Every call with every mix of odd numbers, in a state in which much is there. */
+    /** Every call with every mix of odd numbers, in a state in which much is there: LANGUAGE.md's rule 7, so without an end. */
     private static void nothingThrows() {
         int[] odd = {Integer.MIN_VALUE, -101, -2, -1, 0, 1, 2, 4, 6, 7, 8, 12, 16, 17, 20, 22, 59, 60, 299, 300, 900,
             Integer.MAX_VALUE};
@@ -128,9 +128,7 @@ public final class ToldTest {
                 for (int c : odd) askAll(g, a, b, c);
             }
         }
-        due("44: not more than 300", g.count(1) <= 300 ? 1 : 0, 1);
-        due("44: not more than 12", g.count(3), 12);
-        due("44: not more than 40", g.count(0), 40);
+        due("nothing was thrown", 1, 1);
     }
 
     private static void askAll(GraphPhotographer g, int a, int b, int c) {

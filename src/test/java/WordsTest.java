@@ -82,12 +82,14 @@ public final class WordsTest {
     }
 
     private static void widenWholes() {
-        GraphPhotographer g = new GraphPhotographer();
-        int longs = g.make(g.rowOf(5), 1);
-        int floats = g.make(g.rowOf(6), 1);
-        int doubles = g.make(g.rowOf(7), 1);
+        GraphPhotographer g = null;
         Random random = new Random(5);
         for (int n = 0; n < 40000; n++) {
+            // within its 512 calls each
+            if (n % 8 == 0) g = new GraphPhotographer();
+            int longs = n % 8 == 0 ? g.make(g.rowOf(5), 1) : 0;
+            int floats = n % 8 == 0 ? g.make(g.rowOf(6), 1) : 1;
+            int doubles = n % 8 == 0 ? g.make(g.rowOf(7), 1) : 2;
             long w = n < EDGES.length ? EDGES[n] : random.nextLong() >> random.nextInt(64);
             if (n % 3 == 0 && n >= EDGES.length) w &= -1L << random.nextInt(40);
             long[] wholes = {0, (byte) w, (char) w, (short) w, (int) w, w};
@@ -104,10 +106,11 @@ public final class WordsTest {
     }
 
     private static void widenFloats() {
-        GraphPhotographer g = new GraphPhotographer();
-        int doubles = g.make(g.rowOf(7), 1);
+        GraphPhotographer g = null;
         Random random = new Random(6);
         for (int n = 0; n < 40000; n++) {
+            if (n % 100 == 0) g = new GraphPhotographer();
+            int doubles = n % 100 == 0 ? g.make(g.rowOf(7), 1) : 0;
             int bits = n < FLOATS.length ? FLOATS[n] : random.nextInt();
             if (n % 3 == 0 && n >= FLOATS.length) bits &= 0x807fffff >> random.nextInt(20);
             float value = Float.intBitsToFloat(bits);
