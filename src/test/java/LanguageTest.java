@@ -1,4 +1,5 @@
 import java.io.IOException;
+import java.lang.reflect.Constructor;
 import java.lang.reflect.Field;
 import java.lang.reflect.Method;
 import java.lang.reflect.Modifier;
@@ -82,14 +83,30 @@ public final class LanguageTest {
             got.add(told(m));
             Class<?> due = LONGS.contains(m.getName()) ? long.class : int.class;
             CHECKS.due("rule 1: what " + m.getName() + " answers", m.getReturnType() == due ? 1 : 0, 1);
-            CHECKS.due("rule 1: " + m.getName() + " is public", Modifier.isPublic(m.getModifiers()) ? 1 : 0, 1);
+            // nothing beside it: neither static nor synchronized
+            CHECKS.due("rule 1: " + m.getName() + " is public", m.getModifiers(), Modifier.PUBLIC);
         }
         Set<String> want = new TreeSet<>(List.of(FACE.split(" ")));
         CHECKS.due("rule 1: the methods of the face are " + got, got.equals(want) ? 1 : 0, 1);
         CHECKS.due("rule 1: it is final", Modifier.isFinal(c.getModifiers()) ? 1 : 0, 1);
+        CHECKS.due("rule 1: it is public", Modifier.isPublic(c.getModifiers()) ? 1 : 0, 1);
+        CHECKS.due("rule 1: it extends and implements nothing", c.getSuperclass() == Object.class ? c.getInterfaces().length : 1, 0);
         CHECKS.due("rule 1: one constructor", c.getDeclaredConstructors().length, 1);
+        for (Constructor<?> made : c.getDeclaredConstructors()) {
+            CHECKS.due("rule 1: the constructor is public", made.getModifiers(), Modifier.PUBLIC);
+            CHECKS.due("rule 1: what the constructor takes", made.getParameterCount(), 0);
+        }
+        constants(c);
+    }
+
+    private static void constants(Class<?> c) {
         Set<String> constants = new TreeSet<>();
-        for (Field f : c.getDeclaredFields()) if (!Modifier.isPrivate(f.getModifiers())) constants.add(f.getName());
+        for (Field f : c.getDeclaredFields()) {
+            if (Modifier.isPrivate(f.getModifiers())) continue;
+            constants.add(f.getName());
+            CHECKS.due("rule 1: " + f.getName() + " is an int", f.getType() == int.class ? 1 : 0, 1);
+            CHECKS.due("rule 1: " + f.getName() + " is a constant", f.getModifiers(), Modifier.PUBLIC | Modifier.STATIC | Modifier.FINAL);
+        }
         Set<String> due = Set.of("NONE", "UNKNOWN", "OUTSIDE", "STATE", "FULL", "CONFLICTS");
         CHECKS.due("rule 1: the constants are " + constants, constants.equals(new TreeSet<>(due)) ? 1 : 0, 1);
     }

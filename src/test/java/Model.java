@@ -416,7 +416,7 @@ final class Model {
         return u.number;
     }
 
-    private static List<Thing> reached(List<Thing> from) {
+    static List<Thing> reached(List<Thing> from) {
         List<Thing> all = new ArrayList<>();
         ArrayDeque<Thing> waiting = new ArrayDeque<>();
         for (Thing t : from) {
@@ -476,6 +476,10 @@ final class Model {
             }
         }
         return true;
+    }
+
+    long seen() {
+        return seen;
     }
 
     int like(int x, int y) {

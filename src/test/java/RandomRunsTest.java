@@ -1,8 +1,17 @@
+import java.util.Arrays;
+import java.util.List;
 import java.util.Random;
 
-/** Runs of 512 calls with arguments by chance (the same at each time), on the program and on the Model. */
+/** Runs of calls by chance (the same at each time) up to the 512th of an object, on the program and on the Model. */
 public final class RandomRunsTest {
-    private static final int RUNS = 1500, CALLS = 512, MOST_OF_A_STEP = 12;
+    private static final int RUNS = 1800, MOST_STEPS = 20 * Pair.MOST_CALLS;
+    /** How a run begins, and what it likes. */
+    private static final int EVEN = 0, WIDE = 1, BARE = 2, CROWD = 3, ALBUM = 4, MOODS = 5;
+    /** By moods, of a hundred calls: of CLASSES, that make THINGS, that write, that read, of LIKENESS, ROOTS, PICTURES, what is told. */
+    private static final int[][] SHARES = {
+        {6, 18, 29, 6, 8, 8, 17, 8}, {4, 40, 22, 4, 6, 6, 12, 6}, {40, 15, 15, 4, 4, 6, 10, 6}, {2, 4, 44, 2, 4, 8, 30, 6},
+        {4, 14, 24, 2, 4, 14, 32, 6}};
+    private static final int ROWS_OF_ANYS = 33;
     private static final long[] WORDS = {
         0, 1, 2, -1, 5, 127, 128, -128, -129, 255, 256, 300, 32767, 32768, 65408, 65535, 65536, 16777217, 33554433,
         2147483647L, -2147483648L, 2147483648L, 4294967295L, 9007199254740993L, Long.MAX_VALUE, Long.MIN_VALUE,
@@ -10,61 +19,107 @@ public final class RandomRunsTest {
         0x3ff8000000000000L, 0x7ff0000000000000L, 0x7ff8000000000000L, 0x7ff0000000000001L, 0xfff0000000000000L,
     };
 
-    private final Checks checks;
+    private final Tally tally;
+    private final String title;
+    private final Pair pair;
+    private final Model model;
     private final Random random;
-    private final GraphPhotographer program = new GraphPhotographer();
-    private final Model model = new Model();
     private final int run;
     private final int mood;
-    private int calls;
+    /** One call is kept for the end. */
+    private int limit = Pair.MOST_CALLS - 1;
 
-    private RandomRunsTest(Checks checks, int run) {
-        this.checks = checks;
+    private RandomRunsTest(Checks checks, Tally tally, int run) {
+        this.tally = tally;
         this.run = run;
-        this.random = new Random(run);
-        this.mood = run % 6;
+        title = "run " + run;
+        pair = new Pair(checks, tally, title);
+        model = pair.model;
+        random = new Random(run);
+        mood = run % MOODS;
     }
 
     public static void main(String[] args) {
         Checks checks = new Checks("RandomRunsTest");
+        Tally tally = new Tally(checks);
         for (int run = 1; run <= RUNS; run++) {
-            new RandomRunsTest(checks, run).go();
+            RandomRunsTest test = new RandomRunsTest(checks, tally, run);
+            test.go();
+            tally.endRun(test.title);
+            checks.due(test.title + ": calls", test.pair.calls(), Pair.MOST_CALLS);
         }
+        tally.end();
         checks.end();
     }
 
     private void go() {
-        if (mood != 5) prepare();
-        // the document leaves free what calls behind the 512th answer
-        for (int step = 0; step < 4 * CALLS && calls + 2 * MOST_OF_A_STEP <= CALLS; step++) {
-            step(calls);
-            if (chance(5)) lookBack();
+        if (mood == CROWD) gather();
+        else if (mood != BARE) prepare();
+        // so that such a run comes to 300 THINGS before it ends
+        for (int i = 0; mood == WIDE && i < 12; i++) ask("multi", ROWS_OF_ANYS, 8, i % 9);
+        if (mood == EVEN || mood == ALBUM) sow();
+        for (int group = 0; group < Tally.groupCount(); group++) goTo(pair.calls() + 1, group);
+        for (int step = 0; step < MOST_STEPS && pair.calls() < limit; step++) {
+            step();
+            if (chance(9)) lookBack();
         }
-        lookBack();
+        limit = Pair.MOST_CALLS;
+        goTo(limit, run / MOODS % Tally.groupCount());
+    }
+
+    /** By calls of one group, and further where these ask several at once. */
+    private void goTo(int calls, int group) {
+        for (int step = 0; step < MOST_STEPS && pair.calls() < calls; step++) callOf(group);
+    }
+
+    private long ask(String name, long... arguments) {
+        return pair.calls() < limit ? pair.ask(name, arguments) : 0;
     }
 
     private void lookBack() {
-        due("digest()", program.digest(), model.digest());
-        due("seen()", program.seen(), model.seen);
-        due("finding()", program.finding(), model.finding());
+        ask("digest");
+        ask("seen");
+        ask("finding");
     }
 
-    /** CLASSES without which little would go. */
+    /** CLASSES without which little would go; ROWS_OF_ANYS is one of them. */
     private void prepare() {
-        due("face()", program.face(), model.face());
-        due("face()", program.face(), model.face());
+        ask("face");
+        ask("face");
         for (int bits = 0; bits < 4; bits++) {
-            int k = program.kind(bits);
-            due("kind", k, model.kind(bits));
+            int k = (int) ask("kind", bits);
             int components = random.nextInt(7);
             for (int i = 0; i < components; i++) {
-                int c = chance(2) ? random.nextInt(8) : pick(8, 8, 20, 21, 22, 14, k);
-                due("component", program.component(k, c), model.component(k, c));
+                ask("component", k, chance(2) ? random.nextInt(8) : pick(8, 8, 20, 21, 22, 14, k));
             }
-            due("close", program.close(k), model.close(k));
+            ask("close", k);
         }
-        for (int c : new int[] {8, 4, 7, 20, 22, 0, 6, 26, 14, 22 + random.nextInt(4)}) {
-            due("rowOf", program.rowOf(c), model.rowOf(c));
+        for (int c : new int[] {8, 4, 7, 20, 22, 0, 6, 26, 14, 22 + random.nextInt(4)}) ask("rowOf", c);
+    }
+
+    /** 64 THINGS with 16 ELEMENTS each, most of them WORDS above 0; ROOT 0 reaches all. */
+    private void gather() {
+        int anys = (int) ask("rowOf", 8);
+        int longs = (int) ask("rowOf", 5);
+        ask("make", anys, 16);
+        ask("make", longs, 16);
+        for (int i = 0; i < 16; i++) ask("put", 1, i, 5, 1 + i);
+        ask("set", 0, 0, 1);
+        for (int i = 1; i < 15; i++) ask("set", 0, i, ask("shallow", 1));
+        for (int end = 0; end < 48; end = 2 * end + 16) ask("set", end, 15, ask("deep", 0));
+        ask("photo");
+        ask("name", 0, 0);
+        ask("photo");
+    }
+
+    /** Some THINGS that have one another, and ROOTS that reach most of them. */
+    private void sow() {
+        for (int i = 0; i < 14; i++) makingCall();
+        for (int r = 0; r < 4; r++) ask("name", r, aThing());
+        for (int i = 0; i < 40; i++) {
+            int x = chance(3) ? aThing() : aNamed();
+            int place = aPlace(x);
+            ask("set", x, place, aFit(x, place));
         }
     }
 
@@ -84,20 +139,20 @@ public final class RandomRunsTest {
         return chance(25) ? wild() : chance(3) ? random.nextInt(20) : 20 + random.nextInt(1 + Math.min(40, model.count(0)));
     }
 
-    private int aRow() {
+    private int aClassOf(int sort) {
         for (int tries = 0; tries < 20; tries++) {
             int c = aClass();
-            if (model.about(c, 0) == 5) return c;
+            if (model.about(c, 0) == sort) return c;
         }
         return aClass();
     }
 
+    private int aRow() {
+        return aClassOf(5);
+    }
+
     private int aKind() {
-        for (int tries = 0; tries < 20; tries++) {
-            int c = aClass();
-            if (model.about(c, 0) == 4) return c;
-        }
-        return aClass();
+        return aClassOf(4);
     }
 
     private int aThing() {
@@ -108,6 +163,12 @@ public final class RandomRunsTest {
             if (x < model.things.size() && !model.things.get(x).gone) return x;
         }
         return random.nextInt(1 + model.things.size());
+    }
+
+    /** One that ROOTS reach, so that PICTURES differ by what is written to it. */
+    private int aNamed() {
+        List<Model.Thing> all = Model.reached(Arrays.asList(model.roots));
+        return all.isEmpty() ? aThing() : all.get(random.nextInt(all.size())).number;
     }
 
     private int aPlace(int x) {
@@ -136,7 +197,15 @@ public final class RandomRunsTest {
     }
 
     private int aShot() {
-        return chance(25) ? wild() : random.nextInt(1 + model.shots.size());
+        return chance(25) ? wild() : random.nextInt(Math.max(1, model.shots.size()));
+    }
+
+    private int fullestShot() {
+        int fullest = 0;
+        for (int p = 1; p < model.shots.size(); p++) {
+            if (model.shots.get(p).entries.size() > model.shots.get(fullest).entries.size()) fullest = p;
+        }
+        return fullest;
     }
 
     private int aRoot() {
@@ -147,175 +216,171 @@ public final class RandomRunsTest {
         return chance(20) ? wild() : random.nextInt(most + 2);
     }
 
-    /** Of one call each. */
-    private void due(String call, long got, long want) {
-        calls++;
-        checks.due("run " + run + ", call " + calls + ": " + call, got, want);
+    private void step() {
+        int sort = 0;
+        for (int at = random.nextInt(100); sort < 7 && at >= SHARES[mood][sort]; sort++) at -= SHARES[mood][sort];
+        if (sort == 1) makingCall();
+        else if (sort == 2) writingCall();
+        else if (sort == 3) readingCall();
+        else callOf(Math.max(0, sort - 2));
     }
 
-    private void step(int call) {
-        int sort = random.nextInt(100);
-        if (mood == 4 && call < 100 && sort >= 60 && sort < 80) sort -= 40;
-        if (sort < 6) classCall();
-        else if (sort < 24) makingCall();
-        else if (sort < 55) writingCall();
-        else if (sort < 68) readingCall();
-        else if (sort < 76) rootCall();
-        else if (sort < 92) pictureCall();
-        else tellingCall();
+    /** In the order in which the document tells the groups. */
+    private void callOf(int group) {
+        switch (group) {
+            case 0: classCall(); break;
+            case 1: readingCall(); break;
+            case 2: likenessCall(); break;
+            case 3: rootCall(); break;
+            case 4: pictureCall(); break;
+            default: tellingCall(); break;
+        }
     }
 
     private void classCall() {
-        int c = aClass();
-        int d = aClass();
-        int k = aKind();
-        int what = chance(20) ? wild() : random.nextInt(12) - 1;
         switch (random.nextInt(7)) {
-            case 0: if (mood == 5 || chance(6)) due("face()", program.face(), model.face()); break;
+            case 0: if (mood == BARE || chance(6)) ask("face"); break;
             case 1: int bits = chance(9) ? wild() : random.nextInt(1 << Math.min(8, model.faces.size()));
-                if (mood == 5 || chance(3)) due("kind(" + bits + ")", program.kind(bits), model.kind(bits));
+                if (mood == BARE || chance(3)) ask("kind", bits);
                 break;
-            case 2: due("component(" + k + ", " + c + ")", program.component(k, c), model.component(k, c)); break;
-            case 3: due("close(" + k + ")", program.close(k), model.close(k)); break;
-            case 4: if (mood == 5 || chance(2)) due("rowOf(" + c + ")", program.rowOf(c), model.rowOf(c)); break;
-            case 5: due("about(" + c + ", " + what + ")", program.about(c, what), model.about(c, what)); break;
-            default: due("is(" + c + ", " + d + ")", program.is(c, d), model.is(c, d)); break;
+            case 2: int k = aKind();
+                for (int i = 0; i < 3; i++) ask("component", k, aClass());
+                break;
+            case 3: ask("close", aKind()); break;
+            case 4: if (mood == BARE || chance(2)) ask("rowOf", chance(3) ? aRow() : aClass()); break;
+            case 5: ask("about", aClass(), chance(20) ? wild() : random.nextInt(12) - 1); break;
+            default: ask("is", aClass(), aClass()); break;
         }
     }
 
     private void makingCall() {
-        int x = aThing();
-        int c = aRow();
-        int k = aKind();
+        int plain = chance(15) ? wild() : random.nextInt(8);
+        if (mood == WIDE && chance(3)) {
+            ask("multi", ROWS_OF_ANYS, aSize(8), aSize(8));
+            return;
+        }
         switch (random.nextInt(9)) {
             case 0:
-            case 1: int n = aSize(chance(3) ? 16 : 4); due("make(" + c + ", " + n + ")", program.make(c, n), model.make(c, n)); break;
-            case 2: int a = aSize(mood == 3 ? 8 : 2);
-                int b = aSize(mood == 3 ? 8 : 2);
-                due("multi(" + c + ", " + a + ", " + b + ")", program.multi(c, a, b), model.multi(c, a, b));
-                break;
+            case 1: ask("make", aRow(), aSize(chance(3) ? 16 : 4)); break;
+            case 2: ask("multi", aRow(), aSize(2), aSize(2)); break;
             case 3:
             case 4:
-            case 5: due("record(" + k + ")", program.record(k), model.record(k)); break;
-            case 6: int p = chance(15) ? wild() : random.nextInt(8);
-                long w = aWord();
-                due("box(" + p + ", " + w + ")", program.box(p, w), model.box(p, w));
-                break;
-            case 7: due("shallow(" + x + ")", program.shallow(x), model.shallow(x)); break;
-            default:
-                if (mood >= 2 || chance(4)) due("deep(" + x + ")", program.deep(x), model.deep(x));
-                break;
+            case 5: ask("record", aKind()); break;
+            case 6: ask("box", plain, aWord()); break;
+            case 7: ask("shallow", aThing()); break;
+            default: if (mood == WIDE || chance(3)) ask("deep", aThing()); break;
         }
     }
 
     private void writingCall() {
-        int x = aThing();
+        int x = chance(2) ? aThing() : aNamed();
         int y = aThing();
         int i = aPlace(x);
         switch (random.nextInt(10)) {
-            case 0:
-                if (chance(3)) due("seal(" + x + ")", program.seal(x), model.seal(x));
-                break;
+            case 0: if (chance(2)) ask("seal", x); break;
             case 1:
-            case 2: int k = chance(20) ? wild() : random.nextInt(8);
-                long w = aWord();
-                due("put(" + x + ", " + i + ", " + k + ", " + w + ")", program.put(x, i, k, w), model.put(x, i, k, w));
-                break;
-            case 3: int j = aPlace(y);
-                int n = chance(20) ? wild() : random.nextInt(4);
-                due("copy(" + x + ", " + i + ", " + y + ", " + j + ", " + n + ")",
-                        program.copy(x, i, y, j, n), model.copy(x, i, y, j, n));
-                break;
-            default: int z = aFit(x, i);
-                due("set(" + x + ", " + i + ", " + z + ")", program.set(x, i, z), model.set(x, i, z));
+            case 2: ask("put", x, i, chance(20) ? wild() : random.nextInt(8), aWord()); break;
+            case 3: ask("copy", x, i, y, aPlace(y), chance(20) ? wild() : random.nextInt(4)); break;
+            default:
+                if (mood == CROWD && !chance(3)) ask("copy", x, pick(0, 1), y, pick(0, 1, 2), 14);
+                else ask("set", x, i, aFit(x, i));
                 break;
         }
     }
 
     private void readingCall() {
         int x = aThing();
-        int y = aThing();
-        int i = aPlace(x);
-        switch (random.nextInt(8)) {
-            case 0: due("get(" + x + ", " + i + ")", program.get(x, i), model.get(x, i)); break;
-            case 1: due("length(" + x + ")", program.length(x), model.length(x)); break;
-            case 2: due("classOf(" + x + ")", program.classOf(x), model.classOf(x)); break;
-            case 3: due("sealed(" + x + ")", program.sealed(x), model.sealed(x)); break;
-            case 4: due("like(" + x + ", " + y + ")", program.like(x, y), model.like(x, y)); break;
-            case 5: due("hash(" + x + ")", program.hash(x), model.hash(x)); break;
-            case 6: due("least(" + x + ")", program.least(x), model.least(x)); break;
-            default: due("groups()", program.groups(), model.groups()); break;
+        switch (random.nextInt(4)) {
+            case 0: ask("get", x, aPlace(x)); break;
+            case 1: ask("length", x); break;
+            case 2: ask("classOf", x); break;
+            default: ask("sealed", x); break;
         }
+    }
+
+    private void likenessCall() {
+        switch (random.nextInt(4)) {
+            case 0: ask("like", aThing(), aThing()); break;
+            case 1: ask("hash", aThing()); break;
+            case 2: ask("least", aThing()); break;
+            default: ask("groups"); break;
+        }
+    }
+
+    /** One that goes for some steps, and then by chance. */
+    private int aWay(int r) {
+        int steps = random.nextInt(9);
+        int way = steps < 8 && chance(2) ? random.nextInt(16) << 4 * steps : 0;
+        Model.Thing t = r >= 0 && r < 6 ? model.roots[r] : null;
+        for (int step = 0; step < steps && t != null && !t.values.isEmpty(); step++) {
+            int i = random.nextInt(Math.min(15, t.values.size()));
+            way |= i + 1 << 4 * step;
+            t = t.values.get(i) instanceof Model.Thing ? (Model.Thing) t.values.get(i) : null;
+        }
+        return way;
     }
 
     private void rootCall() {
         int r = aRoot();
-        int x = aThing();
         switch (random.nextInt(6)) {
             case 0:
             case 1:
-            case 2: due("name(" + r + ", " + x + ")", program.name(r, x), model.name(r, x)); break;
-            case 3: due("root(" + r + ")", program.root(r), model.root(r)); break;
-            case 4: int way = chance(9) ? random.nextInt() : chance(2) ? 1 + random.nextInt(3) + 16 * random.nextInt(3)
-                        : 0x11111111 + random.nextInt(2) * 0x100 + random.nextInt(2) * 0x10000000;
-                due("path(" + r + ", " + way + ")", program.path(r, way), model.path(r, way));
-                break;
-            default:
-                if (chance(3)) due("sweep()", program.sweep(), model.sweep());
-                break;
+            case 2: ask("name", mood == CROWD && r == 0 ? 1 : r, chance(3) ? aThing() : aNamed()); break;
+            case 3: ask("root", r); break;
+            case 4: ask("path", r, chance(9) ? random.nextInt() : aWay(r)); break;
+            default: if (chance(3)) ask("sweep"); break;
         }
     }
 
     private void pictureCall() {
-        int p = aShot();
-        int q = aShot();
-        int b = aShot();
-        boolean spare = model.shots.size() < 9 || chance(4);
+        // so that PICTURES are of much, too, and some are left to the end
+        boolean spare = model.shots.size() < pair.calls() / 45 || mood == ALBUM || chance(12);
         switch (random.nextInt(8)) {
-            case 0:
-                if (spare && chance(2)) due("photo()", program.photo(), model.photo());
-                break;
-            case 1: int w = chance(20) ? wild() : random.nextInt(9);
-                due("picture(" + p + ", " + w + ")", program.picture(p, w), model.picture(p, w));
-                break;
-            case 2: int x = aThing();
-                int what = chance(20) ? wild() : random.nextInt(8);
-                due("entry(" + p + ", " + x + ", " + what + ")", program.entry(p, x, what), model.entry(p, x, what));
-                break;
-            case 3: due("differ(" + p + ", " + q + ")", program.differ(p, q), model.differ(p, q)); break;
-            case 4:
-                if (spare) due("lay(" + p + ")", program.lay(p), model.lay(p));
-                due("misfit()", program.misfit(), model.misfit());
-                break;
-            case 5:
-                if (spare) due("merge(" + b + ", " + p + ", " + q + ")", program.merge(b, p, q), model.merge(b, p, q));
-                conflicts();
-                break;
-            case 6:
-                if (chance(3)) due("restore(" + p + ")", program.restore(p), model.restore(p));
-                break;
+            case 0: if (spare) ask("photo"); break;
+            case 1: ask("picture", aShot(), chance(20) ? wild() : random.nextInt(9)); break;
+            case 2: entryCall(); break;
+            case 3: ask("differ", aShot(), aShot()); break;
+            case 4: layCall(spare && !(mood == CROWD && chance(2))); break;
+            case 5: mergeCall(spare); break;
+            case 6: if (chance(3)) ask("restore", chance(3) ? aShot() : fullestShot()); break;
             default: edits(); break;
         }
     }
 
-    private void edits() {
-        int k = chance(9) ? wild() : random.nextInt(1 + model.count(4));
-        for (int what = -1; what < 6; what++) {
-            due("edit(" + k + ", " + what + ")", program.edit(k, what), model.edit(k, what));
+    private void entryCall() {
+        int p = aShot();
+        int x = aThing();
+        if (p >= 0 && p < model.shots.size() && !chance(4)) {
+            Integer next = model.shots.get(p).entries.ceilingKey(x);
+            if (next != null) x = next;
         }
+        ask("entry", p, x, chance(20) ? wild() : random.nextInt(8));
     }
 
-    private void conflicts() {
-        due("conflict(-1, 0)", program.conflict(-1, 0), model.conflict(-1, 0));
-        int k = chance(9) ? wild() : random.nextInt(1 + model.conflicts.size());
-        for (int what = -1; what < 4; what++) {
-            due("conflict(" + k + ", " + what + ")", program.conflict(k, what), model.conflict(k, what));
+    private void layCall(boolean spare) {
+        boolean stuck = spare && ask("lay", aShot()) == -18;
+        long which = ask("misfit");
+        if (stuck) tally.note(which == model.count(4) ? "MISFIT behind all" : "MISFIT of an EDIT");
+    }
+
+    private void mergeCall(boolean spare) {
+        if (spare && ask("merge", aShot(), aShot(), aShot()) == -105) {
+            for (int[] conflict : model.conflicts) tally.note("CONFLICT " + conflict[0]);
+            if (model.conflicts.size() > 60) tally.note("more than 60 CONFLICTS");
         }
+        ask("conflict", -1, 0);
+        int k = chance(9) ? wild() : random.nextInt(1 + model.conflicts.size());
+        for (int what = -1; what < 4; what++) ask("conflict", k, what);
+    }
+
+    private void edits() {
+        int k = chance(9) ? wild() : random.nextInt(1 + model.count(4));
+        for (int what = -1; what < 6; what++) ask("edit", k, what);
     }
 
     private void tellingCall() {
         int f = random.nextInt(12) - 1;
-        due("findings(" + f + ")", program.findings(f), model.findings(f));
-        due("count(" + f + ")", program.count(f), model.count(f));
+        ask("findings", f);
+        ask("count", f);
     }
 }
