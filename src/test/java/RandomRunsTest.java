@@ -7,7 +7,7 @@ public final class RandomRunsTest {
     private static final int RUNS = 1800, MOST_STEPS = 20 * Pair.MOST_CALLS;
     /** How a run begins, and what it likes. */
     private static final int EVEN = 0, WIDE = 1, BARE = 2, CROWD = 3, ALBUM = 4, MOODS = 5;
-    /** By moods, of a hundred calls: of CLASSES, that make THINGS, that write, that read, of LIKENESS, ROOTS, PICTURES, what is told. */
+    /** By moods, of a hundred: calls of CLASSES, that make THINGS, write, read, of LIKENESS, ROOTS, PICTURES, what is told. */
     private static final int[][] SHARES = {
         {6, 18, 29, 6, 8, 8, 17, 8}, {4, 40, 22, 4, 6, 6, 12, 6}, {40, 15, 15, 4, 4, 6, 10, 6}, {2, 4, 44, 2, 4, 8, 30, 6},
         {4, 14, 24, 2, 4, 14, 32, 6}};
@@ -291,7 +291,9 @@ public final class RandomRunsTest {
     private void readingCall() {
         int x = aThing();
         switch (random.nextInt(4)) {
-            case 0: ask("get", x, aPlace(x)); break;
+            case 0: ask("get", x, aPlace(x));
+                ask("seen");
+                break;
             case 1: ask("length", x); break;
             case 2: ask("classOf", x); break;
             default: ask("sealed", x); break;
@@ -301,7 +303,9 @@ public final class RandomRunsTest {
     private void likenessCall() {
         switch (random.nextInt(4)) {
             case 0: ask("like", aThing(), aThing()); break;
-            case 1: ask("hash", aThing()); break;
+            case 1: ask("hash", aThing());
+                ask("seen");
+                break;
             case 2: ask("least", aThing()); break;
             default: ask("groups"); break;
         }
@@ -354,7 +358,13 @@ public final class RandomRunsTest {
             Integer next = model.shots.get(p).entries.ceilingKey(x);
             if (next != null) x = next;
         }
-        ask("entry", p, x, chance(20) ? wild() : random.nextInt(8));
+        if (chance(20)) ask("entry", p, x, wild());
+        // one behind the last value, too
+        long values = ask("entry", p, x, 1);
+        for (int what = pick(0, 2, 3); what < 4 + values; what++) {
+            ask("entry", p, x, what);
+            ask("seen");
+        }
     }
 
     private void layCall(boolean spare) {
